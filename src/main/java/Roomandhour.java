@@ -890,6 +890,16 @@ public final class Roomandhour {
                     keep(rule);
                 }
             }
+            for (int lesson = 0; lesson < school.lessons; lesson++) {
+                for (int other = 0; other < lesson; other++) {
+                    keepRooms(lesson, other);
+                }
+            }
+            // Each round but the last takes away a slot at least.
+            boolean again = true;
+            for (int round = 0; round <= MOST_LESSONS * MOST_SLOTS && again; round++) {
+                again = dropLonelyStarts();
+            }
         }
 
         static int pairIndex(int lesson, int slot, int other) {
@@ -973,6 +983,44 @@ public final class Roomandhour {
                     }
                 }
             }
+        }
+
+        /** Two lessons that can have one room alone, and the same one, never cover a common slot. */
+        private void keepRooms(int lesson, int other) {
+            if (openRooms[lesson] != openRooms[other] || Integer.bitCount(openRooms[lesson]) != 1) {
+                return;
+            }
+            for (int slot = 0; slot < school.slots; slot++) {
+                for (int begin = 0; begin < school.slots; begin++) {
+                    if ((cover[lesson * MOST_SLOTS + slot] & cover[other * MOST_SLOTS + begin]) != 0) {
+                        fits[pairIndex(lesson, slot, other)] &= ~(1 << begin);
+                        fits[pairIndex(other, begin, lesson)] &= ~(1 << slot);
+                    }
+                }
+            }
+        }
+
+        /** Takes away the slots that go with no slot of some other lesson: most hopeless searches end by this. */
+        private boolean dropLonelyStarts() {
+            boolean dropped = false;
+            for (int lesson = 0; lesson < school.lessons; lesson++) {
+                for (int slot = 0; slot < school.slots; slot++) {
+                    if ((starts[lesson] >> slot & 1) != 0 && isLonelyStart(lesson, slot)) {
+                        starts[lesson] &= ~(1 << slot);
+                        dropped = true;
+                    }
+                }
+            }
+            return dropped;
+        }
+
+        private boolean isLonelyStart(int lesson, int slot) {
+            for (int other = 0; other < school.lessons; other++) {
+                if (other != lesson && (fits[pairIndex(lesson, slot, other)] & starts[other]) == 0) {
+                    return true;
+                }
+            }
+            return false;
         }
 
         private void barLesson(int lesson, int slots) {
@@ -1844,6 +1892,7 @@ public final class Roomandhour {
         /** Whether a value of a good timetable was narrowed away. */
         boolean strayed = false;
         int leastWeight = 0;
+        int timetables = 0;
         /** The rules of which it is asked whether some timetable keeps them. */
         int wanted = 0;
         boolean wantedKept = false;
@@ -1856,7 +1905,8 @@ public final class Roomandhour {
 
         /** Looks for good timetables; false if there are too many timetables to go through. */
         boolean enumerate() {
-            if (countTimetables() > MOST_TIMETABLES) {
+            timetables = countTimetables();
+            if (timetables > MOST_TIMETABLES) {
                 return false;
             }
             someGood = false;
@@ -1896,6 +1946,10 @@ public final class Roomandhour {
         }
 
         private void walk(int lesson) {
+            if (timetables == 0) {
+                // Some lesson has no value at all: the others are not gone through in vain.
+                return;
+            }
             if (lesson >= school.lessons) {
                 look();
                 return;
