@@ -37,6 +37,7 @@ final class Model {
     int[] now = null;
     int[] picture = null;
     String output = "";
+    private List<int[]> tables = null;
     private List<Entry> entries = null;
 
     int slots() {
@@ -51,7 +52,7 @@ final class Model {
         days = d;
         hours = h;
         now = null;
-        entries = null;
+        forget();
         return d * h;
     }
 
@@ -72,7 +73,7 @@ final class Model {
         if (places < 1 || places > 99) throw new IllegalArgumentException();
         if (seats.size() == 3) throw new IllegalStateException();
         seats.add(places);
-        entries = null;
+        forget();
         return seats.size() - 1;
     }
 
@@ -86,7 +87,7 @@ final class Model {
         lesson.length = length;
         lessons.add(lesson);
         now = null;
-        entries = null;
+        forget();
         return lessons.size() - 1;
     }
 
@@ -262,21 +263,27 @@ final class Model {
     }
 
     List<Entry> entries() {
-        if (entries == null) {
-            List<Entry> list = new ArrayList<>();
+        if (tables == null) {
+            List<int[]> list = new ArrayList<>();
             walk(list, new int[lessons.size()], 0);
-            entries = list;
+            tables = list;
+        }
+        if (entries == null) {
+            entries = new ArrayList<>();
+            for (int[] table : tables) {
+                Entry entry = new Entry();
+                entry.table = table;
+                entry.broken = brokenBy(table);
+                entries.add(entry);
+            }
         }
         return entries;
     }
 
-    private void walk(List<Entry> list, int[] table, int lesson) {
+    private void walk(List<int[]> list, int[] table, int lesson) {
         if (lesson == table.length) {
             if (list.size() == most) throw new TooMany();
-            Entry entry = new Entry();
-            entry.table = table.clone();
-            entry.broken = brokenBy(table);
-            list.add(entry);
+            list.add(table.clone());
             return;
         }
         for (int value : ownValues(lesson)) {
@@ -285,6 +292,11 @@ final class Model {
             for (int j = 0; j < lesson; j++) if (pairFaults(j, table[j], lesson, value) > 0) clash = true;
             if (!clash) walk(list, table, lesson + 1);
         }
+    }
+
+    private void forget() {
+        tables = null;
+        entries = null;
     }
 
     boolean canKeep(int set, int teacher, int day) {

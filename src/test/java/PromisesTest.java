@@ -453,6 +453,37 @@ public final class PromisesTest {
         due.is(z.leftAt(1, 3), 20, "leftAt(1, 3)");
         z.addLesson(0, 2, 1);
         due.is(z.left(0), 0, "left(0): four slots of lessons in a day of three");
+        // Three lessons of two slots go together by pairs in five slots, but are six slots long.
+        Roomandhour w = wide(2, 3);
+        for (int k = 0; k < 3; k++) {
+            w.addLesson(0, k, 2);
+        }
+        w.addLesson(1, 3, 1);
+        due.is(w.left(0), 12, "left(0): three long lessons in six slots");
+        for (int k = 0; k < 3; k++) {
+            due.is(w.left(3), 18, "left(3): three long lessons in six slots");
+            w.addRule(Roomandhour.NOT_THEN, k, 5);
+        }
+        due.is(w.left(3), 0, "left(3): three long lessons in five slots take all values away");
+        due.is(w.bound(), NONE, "bound() then");
+        leftBehindCrowds();
+    }
+
+    /** What two lessons of a class, or of a teacher, take from a third one, a rule takes from a fourth one. */
+    private static void leftBehindCrowds() {
+        for (int ofTeacher = 0; ofTeacher < 2; ofTeacher++) {
+            Roomandhour x = wide(1, 3);
+            for (int k = 0; k < 3; k++) {
+                x.addLesson(ofTeacher == 0 ? 0 : k, ofTeacher == 0 ? k : 0, 1);
+            }
+            x.addLesson(ofTeacher == 0 ? 1 : 3, ofTeacher == 0 ? 3 : 1, 1);
+            x.addRule(Roomandhour.NOT_THEN, 0, 2);
+            x.addRule(Roomandhour.TOGETHER, 2, 3);
+            due.is(x.left(3), 9, "left(3) with TOGETHER");
+            x.addRule(Roomandhour.NOT_THEN, 1, 2);
+            due.is(x.left(3), 3, "left(3) behind a crowd");
+            due.is(x.leftAt(3, 0), 20, "leftAt(3, 0) behind a crowd");
+        }
     }
 
     private static void leftAt() {
@@ -1207,6 +1238,30 @@ public final class PromisesTest {
         Roomandhour z = oneRoom(1, 1, 2);
         due.keeps(z, () -> z.best(), NONE, "best() without a good one");
         due.noState(z, () -> z.at(0), "at(0) behind it");
+        bestFillsGap();
+    }
+
+    /** The lessons 1 and 2 of a teacher are in the slots 0 and 2; the lesson 3 fills the gap, or is in the slot 4. */
+    private static void bestFillsGap() {
+        Roomandhour x = wide(2, 3);
+        x.addLesson(1, 1, 2);
+        x.addLesson(1, 0, 1);
+        x.addLesson(2, 0, 1);
+        x.addLesson(3, 0, 1);
+        x.addRule(Roomandhour.FREE, 0, 3);
+        x.addRule(Roomandhour.FREE, 0, 5);
+        x.addRule(Roomandhour.AHEAD, 1, 2);
+        x.addRule(Roomandhour.NOT_THEN, 1, 1);
+        x.addRule(Roomandhour.NOT_THEN, 1, 2);
+        x.addRule(Roomandhour.NOT_THEN, 2, 1);
+        x.addRule(Roomandhour.NOT_THEN, 2, 4);
+        x.addRule(Roomandhour.NOT_THEN, 0, 5);
+        x.setWeights(1, 1, 9);
+        due.is(x.best(), 4, "best(): the lesson 0 on the second day, the gap filled");
+        stands(x, "the gap filled", 30, 0, 20, 10);
+        x.addRule(Roomandhour.NOT_THEN, 3, 1);
+        due.is(x.best(), 13, "best(): the gap cannot be filled");
+        stands(x, "the gap not filled", 30, 0, 20, 41);
     }
 
     private static void bound() {

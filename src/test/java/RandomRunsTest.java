@@ -49,7 +49,7 @@ public final class RandomRunsTest {
         m.most = most;
         StringBuilder log = new StringBuilder();
         build(random, x, m, log);
-        int calls = 60 + random.nextInt(60);
+        int calls = 50 + random.nextInt(50);
         for (int k = 0; k < calls; k++) {
             int op = draw(random);
             int[] a = arguments(random, op, m);
@@ -65,10 +65,12 @@ public final class RandomRunsTest {
         if (random.nextInt(3) == 0) {
             step(x, m, 0, new int[] {1 + random.nextInt(2), 1 + random.nextInt(3)}, log);
         }
-        int rooms = 1 + random.nextInt(3);
-        int classes = 1 + random.nextInt(4);
-        int teachers = 1 + random.nextInt(4);
-        int lessons = random.nextInt(7);
+        int flavour = random.nextInt(8);
+        int rooms = flavour < 2 ? 1 : 1 + random.nextInt(3);
+        int classes = flavour == 0 ? 1 + random.nextInt(2) : 1 + random.nextInt(4);
+        int teachers = flavour == 1 ? 1 + random.nextInt(2) : 1 + random.nextInt(4);
+        int lessons = flavour < 2 ? 4 + random.nextInt(3) : random.nextInt(7);
+        int longOf = flavour == 0 ? 2 : 3;
         for (int k = 0; k < rooms; k++) {
             step(x, m, 3, new int[] {10 * (1 + random.nextInt(3))}, log);
         }
@@ -80,15 +82,21 @@ public final class RandomRunsTest {
             step(x, m, 2, new int[] {}, log);
         }
         for (int k = 0; k < lessons; k++) {
-            step(x, m, 4, new int[] {random.nextInt(classes), random.nextInt(teachers), random.nextInt(3) == 0 ? 2 : 1}, log);
+            step(x, m, 4, new int[] {random.nextInt(classes), random.nextInt(teachers), random.nextInt(longOf) == 0 ? 2 : 1}, log);
         }
         int rules = random.nextInt(random.nextBoolean() ? 5 : 11);
         for (int k = 0; k < rules; k++) {
-            step(x, m, 5, arguments(random, 5, m), log);
+            step(x, m, 5, flavour < 2 && random.nextBoolean() ? oneSlotBarred(random, m) : arguments(random, 5, m), log);
         }
-        if (random.nextBoolean()) {
+        if (flavour == 1) {
+            step(x, m, 25, new int[] {random.nextInt(3), random.nextInt(3), 1 + random.nextInt(9)}, log);
+        } else if (random.nextBoolean()) {
             step(x, m, 25, new int[] {random.nextInt(10), random.nextInt(10), random.nextInt(10)}, log);
         }
+    }
+
+    private static int[] oneSlotBarred(Random random, Model m) {
+        return new int[] {Roomandhour.NOT_THEN, random.nextInt(m.lessons.size()), random.nextInt(m.slots())};
     }
 
     private static int draw(Random random) {
