@@ -1238,15 +1238,19 @@ public final class PromisesTest {
         Roomandhour z = oneRoom(1, 1, 2);
         due.keeps(z, () -> z.best(), NONE, "best() without a good one");
         due.noState(z, () -> z.at(0), "at(0) behind it");
-        bestFillsGap();
+        bestFillsGap(3);
+        bestFillsGap(4);
     }
 
-    /** The lessons 1 and 2 of a teacher are in the slots 0 and 2; the lesson 3 fills the gap, or is in the slot 4. */
-    private static void bestFillsGap() {
+    /** The lessons 1 and 2 of a teacher are in the slots 0 and 2; the last lesson fills the gap, or is in the slot 4. */
+    private static void bestFillsGap(int last) {
         Roomandhour x = wide(2, 3);
         x.addLesson(1, 1, 2);
         x.addLesson(1, 0, 1);
         x.addLesson(2, 0, 1);
+        if (last == 4) {
+            x.addLesson(0, 2, 1);
+        }
         x.addLesson(3, 0, 1);
         x.addRule(Roomandhour.FREE, 0, 3);
         x.addRule(Roomandhour.FREE, 0, 5);
@@ -1258,10 +1262,12 @@ public final class PromisesTest {
         x.addRule(Roomandhour.NOT_THEN, 0, 5);
         x.setWeights(1, 1, 9);
         due.is(x.best(), 4, "best(): the lesson 0 on the second day, the gap filled");
-        stands(x, "the gap filled", 30, 0, 20, 10);
-        x.addRule(Roomandhour.NOT_THEN, 3, 1);
+        stands(x, "the gap filled", 30, 0, 20);
+        due.is(x.at(last), 10, "at(" + last + ") that fills the gap");
+        x.addRule(Roomandhour.NOT_THEN, last, 1);
         due.is(x.best(), 13, "best(): the gap cannot be filled");
-        stands(x, "the gap not filled", 30, 0, 20, 41);
+        stands(x, "the gap not filled", 30, 0, 20);
+        due.is(x.at(last), 41, "at(" + last + ") that does not fill the gap");
     }
 
     private static void bound() {
