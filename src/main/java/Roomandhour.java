@@ -1078,14 +1078,14 @@ public final class Roomandhour {
 
         private void price(int lesson) {
             for (int slot = 0; slot < school.slots; slot++) {
-                int least = Integer.MAX_VALUE;
+                int least = Search.MOST_COST;
                 for (int room = 0; room < school.rooms; room++) {
                     if ((openRooms[lesson] >> room & 1) != 0) {
                         least = Math.min(least, valueCost[valueIndex(lesson, slot, room)]);
                     }
                 }
                 // A lesson without rooms ends the search before it looks at a cost.
-                slotCost[lesson * MOST_SLOTS + slot] = least == Integer.MAX_VALUE ? 0 : least;
+                slotCost[lesson * MOST_SLOTS + slot] = least == Search.MOST_COST ? 0 : least;
             }
         }
     }
@@ -1470,7 +1470,7 @@ public final class Roomandhour {
         }
 
         private int leastOf(int lesson) {
-            int least = Integer.MAX_VALUE;
+            int least = Search.MOST_COST;
             for (int slot = 0; slot < school.slots; slot++) {
                 for (int room = 0; room < school.rooms; room++) {
                     if (isOpen(lesson, slot, room)) {

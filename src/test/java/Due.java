@@ -14,6 +14,10 @@ final class Due {
         promise = name;
     }
 
+    int asked() {
+        return asked;
+    }
+
     void is(Object got, Object want, String call) {
         asked++;
         if (!got.equals(want)) {

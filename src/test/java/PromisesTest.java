@@ -1,9 +1,5 @@
 /** At least one test by hand for each promise of the document: ordinary inputs, edges, wrong inputs. */
-public final class PromisesTest {
-    private static final int NONE = Roomandhour.NONE;
-    private static final int MIN = Integer.MIN_VALUE, MAX = Integer.MAX_VALUE;
-    private static final Due due = new Due();
-
+public final class PromisesTest extends Schools {
     public static void main(String[] args) {
         newObject();
         setGrid();
@@ -52,53 +48,6 @@ public final class PromisesTest {
         usedShare();
         errors();
         due.end();
-    }
-
-    // ---- schools to begin with
-
-    /** One room, and as many lessons of length 1, each with its own class and teacher (at most 4). */
-    private static Roomandhour oneRoom(int days, int hours, int lessons) {
-        Roomandhour x = new Roomandhour();
-        x.setGrid(days, hours);
-        x.addRoom(30);
-        for (int k = 0; k < lessons; k++) {
-            x.addLesson(x.addClass(20, NONE), x.addTeacher(), 1);
-        }
-        return x;
-    }
-
-    /** Three rooms with 30 seats, four classes of 20 pupils without a home room, four teachers, no lessons. */
-    private static Roomandhour wide(int days, int hours) {
-        Roomandhour x = new Roomandhour();
-        x.setGrid(days, hours);
-        for (int k = 0; k < 3; k++) {
-            x.addRoom(30);
-        }
-        for (int k = 0; k < 4; k++) {
-            x.addClass(20, NONE);
-            x.addTeacher();
-        }
-        return x;
-    }
-
-    private static void put(Roomandhour x, int... values) {
-        for (int lesson = 0; lesson < values.length; lesson++) {
-            x.place(lesson, values[lesson] / 10, values[lesson] % 10);
-        }
-    }
-
-    private static void stands(Roomandhour x, String name, int... values) {
-        for (int lesson = 0; lesson < values.length; lesson++) {
-            due.is(x.at(lesson), values[lesson], name + ", at(" + lesson + ")");
-        }
-    }
-
-    private static String row(Roomandhour x) {
-        StringBuilder text = new StringBuilder();
-        for (int k = 0; x.outputByte(k) != NONE && k < 20; k++) {
-            text.append((char) x.outputByte(k));
-        }
-        return text.toString();
     }
 
     // ---- what there is
@@ -327,14 +276,6 @@ public final class PromisesTest {
         due.is(x.dropRule(0), 0, "dropRule(0)");
         due.is(x.broken(), 0, "broken() without rules");
         due.is(x.addRule(Roomandhour.NEAR, 0, 1), 0, "addRule behind dropRule");
-    }
-
-    private static long sum(long... numbers) {
-        long c = 0;
-        for (long n : numbers) {
-            c = 31 * c + n;
-        }
-        return c;
     }
 
     // ---- what is left
