@@ -1435,7 +1435,8 @@ public final class Roomandhour {
             // Each round but the last takes away a value at least.
             boolean again = true;
             for (int round = 0; round <= MOST_LESSONS * MOST_SLOTS * MOST_ROOMS && again; round++) {
-                again = dropLonely() | dropCrowded();
+                boolean dropped = dropLonely();
+                again = dropCrowded() || dropped;
             }
         }
 
@@ -1536,10 +1537,10 @@ public final class Roomandhour {
         private boolean dropCrowded() {
             boolean dropped = false;
             for (int group = 0; group < MOST_CLASSES; group++) {
-                dropped |= crowdGroup(lessonsOf(school.lessonClass, group));
+                dropped = crowdGroup(lessonsOf(school.lessonClass, group)) || dropped;
             }
             for (int group = 0; group < MOST_TEACHERS; group++) {
-                dropped |= crowdGroup(lessonsOf(school.lessonTeacher, group));
+                dropped = crowdGroup(lessonsOf(school.lessonTeacher, group)) || dropped;
             }
             return dropped;
         }
@@ -1565,9 +1566,9 @@ public final class Roomandhour {
                     int cover = coverOfSet(set);
                     int spare = Integer.bitCount(cover) - lengthOfSet(set);
                     if (spare < 0) {
-                        dropped |= dropAll();
+                        dropped = dropAll() || dropped;
                     } else if (spare == 0) {
-                        dropped |= dropCovering(group & ~set, cover);
+                        dropped = dropCovering(group & ~set, cover) || dropped;
                     }
                 }
             }
@@ -1607,7 +1608,7 @@ public final class Roomandhour {
         private boolean dropAll() {
             boolean dropped = false;
             for (int lesson = 0; lesson < school.lessons; lesson++) {
-                dropped |= open[lesson] != 0;
+                dropped = dropped || open[lesson] != 0;
                 open[lesson] = 0;
                 covered[lesson] = 0;
             }
@@ -1751,13 +1752,18 @@ public final class Roomandhour {
         private int roomsFor(int part) {
             int number = 0;
             for (int room = 0; room < school.rooms; room++) {
-                boolean fits = false;
-                for (int lesson = 0; lesson < school.lessons; lesson++) {
-                    fits |= (part >> lesson & 1) != 0 && school.hasSeats(lesson, room);
-                }
-                number += fits ? 1 : 0;
+                number += fitsSome(part, room) ? 1 : 0;
             }
             return number;
+        }
+
+        private boolean fitsSome(int part, int room) {
+            for (int lesson = 0; lesson < school.lessons; lesson++) {
+                if ((part >> lesson & 1) != 0 && school.hasSeats(lesson, room)) {
+                    return true;
+                }
+            }
+            return false;
         }
     }
 
@@ -1976,7 +1982,7 @@ public final class Roomandhour {
 
         private void look() {
             int broken = judge.toldBroken(trial);
-            wantedKept |= (broken & wanted) == 0;
+            wantedKept = wantedKept || (broken & wanted) == 0;
             if (broken != 0) {
                 return;
             }
@@ -1988,7 +1994,7 @@ public final class Roomandhour {
             }
             leastWeight = Math.min(leastWeight, weight);
             for (int lesson = 0; lesson < school.lessons; lesson++) {
-                strayed |= !values.isOpen(lesson, trial.slot[lesson], trial.room[lesson]);
+                strayed = strayed || !values.isOpen(lesson, trial.slot[lesson], trial.room[lesson]);
             }
         }
     }
